@@ -936,7 +936,7 @@ public final class DropBoxLoom {
         }
     }
 
-    /** Reads a card list sign by sign; no sign that it accepts leads to where no list goes on. */
+    /** Reads a card list sign by sign, and accepts a sign only if some card list goes on with it. */
     private static final class CardReader {
         private static final int AT_FRAMES = 0;
         private static final int AT_LEFT_BOX = 1;

@@ -38,6 +38,14 @@ public final class CardsTest {
         }
         Check.refused(x, "removeCard(-1)", () -> x.removeCard(-1), DropBoxLoom.NO_SUCH);
         Check.refused(x, "removeCard(16)", () -> x.removeCard(16), DropBoxLoom.NO_SUCH);
+        Check.due("removeCard(3) of a full chain", x.removeCard(3), 15);
+        for (int c = 0; c < 15; c++) {
+            int was = c < 3 ? c : c + 1;
+            Check.due("frames of " + c, x.card(c, 0), was);
+            Check.due("left of " + c, x.card(c, 1), was % 4);
+            Check.due("right of " + c, x.card(c, 2), was / 8);
+        }
+        x.undo();
         Check.due("removeCard(15)", x.removeCard(15), 15);
         Check.due("removeCard(7)", x.removeCard(7), 14);
         Check.due("frames of 6", x.card(6, 0), 6);

@@ -135,6 +135,18 @@ public final class ForecastsTest {
         Check.due("repeats(), a thread that breaks by the last pick", y.repeats(), 1);
         y.moveBoxes(0, 3);
         Check.due("repeats() from far boxes at speed 1", y.repeats(), 1);
+        DropBoxLoom z = withShuttle(0, 20);
+        z.addCard(0, 0, 0);
+        z.addCard(0, 1, 0);
+        z.addCard(0, 1, 1);
+        z.addCard(0, 0, 1);
+        Check.due("repeats() through four boxes", z.repeats(), 1);
+        z.turnTo(1);
+        Check.due("repeats() begins with card 0, not with the place", z.repeats(), 1);
+        Check.due("the place stays", z.count(1), 1);
+        z.turnTo(0);
+        z.weave(1);
+        Check.due("repeats() from another box", z.repeats(), 0);
     }
 
     private static void repeatsNot() {

@@ -7,6 +7,7 @@ public final class TextTest {
         everySignAtEveryStep();
         readCards();
         readCardsRefuses();
+        shorterThanBefore();
         Check.end("TextTest");
     }
 
@@ -118,5 +119,20 @@ public final class TextTest {
         Check.due("readCards() of 16", y.readCards(), 16);
         Check.due("frames of the last", y.card(15, 0), 32);
         Check.due("frames of the one before", y.card(14, 0), 0);
+    }
+
+    /** What stood behind the end of the text before is no part of it. */
+    private static void shorterThanBefore() {
+        DropBoxLoom x = new DropBoxLoom();
+        for (int c = 0; c < 14; c++) {
+            x.addCard(1, 0, 0);
+        }
+        Check.typeText(x, "5L3R1;4L2R0;L0R0");
+        x.clearText();
+        Check.typeText(x, "5L3R1");
+        Check.due("syntaxError()", x.syntaxError(), DropBoxLoom.NONE);
+        Check.due("readCards()", x.readCards(), 15);
+        Check.typeText(x, "5L3R1");
+        Check.due("readCards()", x.readCards(), 16);
     }
 }

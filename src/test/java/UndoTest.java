@@ -4,6 +4,8 @@ public final class UndoTest {
         undoOfEach();
         atMostSix();
         undoAndTakeBack();
+        rowsAfterUndo();
+        cardsAfterUndo();
         undoOfStops();
         digestOfNew();
         digestOfWoven();
@@ -90,6 +92,43 @@ public final class UndoTest {
         Check.due("weave(30)", y.weave(30), 30);
         y.undo();
         Check.due("rows that left come back by undo()", y.digest(), latest);
+    }
+
+    /** Two shuttles weave a full cloth; 6 cards, for 20 rows are not a multiple of them. */
+    private static DropBoxLoom striped() {
+        DropBoxLoom x = new DropBoxLoom();
+        for (int s = 3; s < 5; s++) {
+            x.wind(s, s, 99);
+            x.putIn(s, 0, s - 1);
+        }
+        for (int c = 0; c < 6; c++) {
+            x.addCard(7 * c, c < 4 ? 2 : 3, c < 4 ? 0 : 1);
+        }
+        Check.due("weave(25)", x.weave(25), 25);
+        return x;
+    }
+
+    /** Rows that an undone weave() wrote over are whole again, for the cloth and for taking back. */
+    private static void rowsAfterUndo() {
+        DropBoxLoom x = striped();
+        DropBoxLoom y = striped();
+        Check.due("weave(18)", x.weave(18), 18);
+        x.undo();
+        for (int i = 0; i <= 20; i++) {
+            Check.due("digest before takeBack() " + i, x.digest(), y.digest());
+            Check.due("takeBack() " + i, x.takeBack(), y.takeBack());
+        }
+        Check.due("rows", x.count(7), 0);
+    }
+
+    private static void cardsAfterUndo() {
+        DropBoxLoom x = striped();
+        long before = x.digest();
+        for (int c = 0; c < 6; c++) {
+            Check.due("removeCard(" + c + ")", x.removeCard(c), 5);
+            x.undo();
+            Check.due("digest after undo() of removeCard(" + c + ")", x.digest(), before);
+        }
     }
 
     private static void undoOfStops() {

@@ -8,6 +8,7 @@ public final class WeavingTest {
         tooFar();
         takeBackOne();
         takeBackMany();
+        takeBackMovesBoxes();
         takeBackKeepsWearAndStops();
         rowsThatLeft();
         changesEndTakingBack();
@@ -171,6 +172,26 @@ public final class WeavingTest {
         Check.due("no more", x.takeBack(), DropBoxLoom.NOT_POSSIBLE);
         Check.due("each takeBack() was saved", Check.savedStates(x), 6);
         Check.due("as six calls ago", x.count(6), 2);
+    }
+
+    private static void takeBackMovesBoxes() {
+        DropBoxLoom x = new DropBoxLoom();
+        x.putIn(0, 0, 0);
+        x.putIn(1, 0, 2);
+        x.addCard(0, 0, 0);
+        x.addCard(0, 2, 1);
+        x.moveBoxes(0, 3);
+        x.moveBoxes(1, 1);
+        Check.due("weave(4)", x.weave(4), 4);
+        int[] left = {0, 2, 0, 3};
+        int[] right = {0, 1, 0, 1};
+        for (int i = 0; i < left.length; i++) {
+            Check.due("takeBack() " + i, x.takeBack(), 1 - i % 2);
+            Check.due("left at the race", x.count(3), left[i]);
+            Check.due("right at the race", x.count(4), right[i]);
+        }
+        Check.due("box of 0", x.inBox(0, 0), 0);
+        Check.due("box of 1", x.inBox(0, 2), 1);
     }
 
     private static void takeBackKeepsWearAndStops() {
