@@ -20,6 +20,14 @@ final class Check {
         due(what, itDoes ? 1 : 0, 1);
     }
 
+    static int compared() {
+        return compared;
+    }
+
+    static int wrong() {
+        return wrong;
+    }
+
     /** Asserts that a call answers as is due and changes nothing that can be asked. */
     static void refused(DropBoxLoom loom, String call, java.util.function.IntSupplier made, int want) {
         long before = loom.digest();
