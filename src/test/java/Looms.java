@@ -5,20 +5,19 @@ final class Looms {
 
     /** The shuttle 2 in the left box 1, and cards that lift nothing: picks are stopped by yarn alone. */
     static DropBoxLoom plain(int yarn) {
-        DropBoxLoom x = new DropBoxLoom();
-        x.wind(2, 7, yarn);
-        x.putIn(2, 0, 1);
-        x.addCard(0, 1, 1);
-        x.addCard(0, 1, 1);
-        return x;
+        return withShuttle(yarn, 0);
     }
 
     /** As plain(), but all frames move with each pick. */
     static DropBoxLoom moving(int yarn) {
+        return withShuttle(yarn, 63);
+    }
+
+    private static DropBoxLoom withShuttle(int yarn, int frames) {
         DropBoxLoom x = new DropBoxLoom();
         x.wind(2, 7, yarn);
         x.putIn(2, 0, 1);
-        x.addCard(63, 1, 1);
+        x.addCard(frames, 1, 1);
         x.addCard(0, 1, 1);
         return x;
     }

@@ -4,22 +4,48 @@ public final class Promise01Test {
         Promise.test(Promise01Test.class);
     }
 
-    @Sentence({"Creates a loom without cards", "and a place, the number of the card that comes next; it is 0 in an empty chain."})
+    @Sentence("Creates a loom without cards")
     static void hasNoCards() {
         DropBoxLoom x = new DropBoxLoom();
         Check.due("cards", x.count(0), 0);
-        Check.due("place", x.count(1), 0);
         Check.due("card(0, 0)", x.card(0, 0), DropBoxLoom.NO_SUCH);
     }
 
-    @Sentence({"with all shuttles in the drawer.",
-        "There are 5 shuttles, 0 to 4; a shuttle is in a box, or it lies in the drawer, as all do at first."})
+    @Sentence({"it is 0 in an empty chain.", "and a place, the number of the card that comes next;"})
+    static void hasThePlace0() {
+        Check.due("place", new DropBoxLoom().count(1), 0);
+    }
+
+    @Sentence("with all shuttles in the drawer.")
     static void hasAllShuttlesInTheDrawer() {
         DropBoxLoom x = new DropBoxLoom();
         for (int s = 0; s < 5; s++) {
             Check.due("side of " + s, x.shuttle(s, 2), DropBoxLoom.NONE);
             Check.due("box of " + s, x.shuttle(s, 3), DropBoxLoom.NONE);
         }
+    }
+
+    @Sentence("There are 5 shuttles, 0 to 4;")
+    static void hasTheShuttles0To4() {
+        DropBoxLoom x = new DropBoxLoom();
+        for (int s = -1; s <= 5; s++) {
+            Check.due("colour of " + s, x.shuttle(s, 0), s < 0 || s > 4 ? DropBoxLoom.NO_SUCH : s);
+        }
+    }
+
+    @Sentence("Everything is numbered from 0.")
+    static void numbersAllFrom0() {
+        DropBoxLoom x = new DropBoxLoom();
+        Check.due("the shuttle 0, the side 0 and the box 0", x.putIn(0, 0, 0), 1);
+        Check.due("the first card", x.addCard(1, 0, 0), 0);
+        Check.due("the threads of the frame 0", x.card(0, 3), 1 | 1 << 6);
+        Check.due("weave(1)", x.weave(1), 1);
+        Check.due("the row 0, the thread 0", x.cloth(0, 0), 100);
+    }
+
+    @Sentence("a shuttle is in a box, or it lies in the drawer, as all do at first.")
+    static void hasEmptyBoxes() {
+        DropBoxLoom x = new DropBoxLoom();
         for (int box = 0; box < 6; box++) {
             Check.due("inBox " + box, x.inBox(box / 4, box % 4), DropBoxLoom.NONE);
         }
@@ -111,16 +137,48 @@ public final class Promise01Test {
         Check.due("the last call", x.undo(), 5);
     }
 
-    @Sentence({"`NO_SUCH = -1`: There is no such shuttle, box, frame, thread, card, row or side.",
-        "`BAD_VALUE = -2`: Another argument is out of its range.",
-        "`NOT_POSSIBLE = -3`: The call is not possible in the present state.",
-        "`LIMIT = -4`: A limit would be exceeded.", "`BAD_TEXT = -5`: The text is not a card list.",
-        "`NONE = -6`: There is no such result."})
-    static void hasTheConstants() {
-        int[] constants = {DropBoxLoom.NO_SUCH, DropBoxLoom.BAD_VALUE, DropBoxLoom.NOT_POSSIBLE,
-            DropBoxLoom.LIMIT, DropBoxLoom.BAD_TEXT, DropBoxLoom.NONE};
-        for (int i = 0; i < constants.length; i++) {
-            Check.due("constant " + i, constants[i], -1 - i);
+    @Sentence("`NO_SUCH = -1`: There is no such shuttle, box, frame, thread, card, row or side.")
+    static void hasNoSuch() {
+        Check.due("NO_SUCH", DropBoxLoom.NO_SUCH, -1);
+        Check.due("card(0, 0)", new DropBoxLoom().card(0, 0), -1);
+    }
+
+    @Sentence("`BAD_VALUE = -2`: Another argument is out of its range.")
+    static void hasBadValue() {
+        Check.due("BAD_VALUE", DropBoxLoom.BAD_VALUE, -2);
+        Check.due("count(12)", new DropBoxLoom().count(12), -2);
+    }
+
+    @Sentence("`NOT_POSSIBLE = -3`: The call is not possible in the present state.")
+    static void hasNotPossible() {
+        Check.due("NOT_POSSIBLE", DropBoxLoom.NOT_POSSIBLE, -3);
+        Check.due("undo()", new DropBoxLoom().undo(), -3);
+    }
+
+    @Sentence("`LIMIT = -4`: A limit would be exceeded.")
+    static void hasLimit() {
+        Check.due("LIMIT", DropBoxLoom.LIMIT, -4);
+        Check.due("a 17th card", Looms.withCards(16).addCard(0, 0, 0), -4);
+    }
+
+    @Sentence("`BAD_TEXT = -5`: The text is not a card list.")
+    static void hasBadText() {
+        Check.due("BAD_TEXT", DropBoxLoom.BAD_TEXT, -5);
+        Check.due("readCards()", new DropBoxLoom().readCards(), -5);
+    }
+
+    @Sentence("`NONE = -6`: There is no such result.")
+    static void hasNone() {
+        Check.due("NONE", DropBoxLoom.NONE, -6);
+        Check.due("inBox(0, 0)", new DropBoxLoom().inBox(0, 0), -6);
+    }
+
+    @Sentence("NONE is not an error code.")
+    static void hasNoneApartFromTheErrorCodes() {
+        int[] codes = {DropBoxLoom.NO_SUCH, DropBoxLoom.BAD_VALUE, DropBoxLoom.NOT_POSSIBLE, DropBoxLoom.LIMIT,
+            DropBoxLoom.BAD_TEXT};
+        for (int code : codes) {
+            Check.holds("NONE is not " + code, code != DropBoxLoom.NONE);
         }
     }
 }

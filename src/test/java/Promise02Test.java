@@ -25,8 +25,37 @@ public final class Promise02Test {
         Check.due("putIn(4, 0, 1)", x.putIn(4, 0, 1), 2);
     }
 
-    @Sentence({"`side`: 0 or 1", "`box`: 0 to 3 on the left side, 0 or 1 on the right side",
-        "There are two sides, 0 left and 1 right. The left side has 4 boxes, the right side has 2."})
+    @Sentence("`side`: 0 or 1")
+    static void takesTheSides0And1() {
+        DropBoxLoom x = new DropBoxLoom();
+        Check.due("putIn(1, 0, 1)", x.putIn(1, 0, 1), 1);
+        Check.due("putIn(2, 1, 1)", x.putIn(2, 1, 1), 2);
+        Check.due("side of 1", x.shuttle(1, 2), 0);
+        Check.due("side of 2", x.shuttle(2, 2), 1);
+    }
+
+    @Sentence("There are two sides, 0 left and 1 right. The left side has 4 boxes, the right side has 2.")
+    static void has4BoxesOnTheLeftAnd2OnTheRightSideAndNoOthers() {
+        for (int side = -1; side <= 2; side++) {
+            int boxes = 0;
+            for (int box = -2; box <= 6; box++) {
+                boxes += new DropBoxLoom().putIn(0, side, box) == 1 ? 1 : 0;
+            }
+            Check.due("boxes of the side " + side, boxes, side == 0 ? 4 : side == 1 ? 2 : 0);
+        }
+    }
+
+    @Sentence("A box is empty or has one shuttle.")
+    static void hasNeverTwoShuttlesInABox() {
+        DropBoxLoom x = new DropBoxLoom();
+        Check.due("inBox", x.inBox(1, 0), DropBoxLoom.NONE);
+        for (int s = 4; s >= 0; s--) {
+            Check.due("putIn " + s, x.putIn(s, 1, 0), s == 4 ? 1 : DropBoxLoom.NOT_POSSIBLE);
+            Check.due("inBox", x.inBox(1, 0), 4);
+        }
+    }
+
+    @Sentence("`box`: 0 to 3 on the left side, 0 or 1 on the right side")
     static void takesTheFirstAndTheLastBoxOfBothSides() {
         int[][] boxes = {{0, 0}, {0, 3}, {1, 0}, {1, 1}};
         for (int s = 0; s < boxes.length; s++) {
@@ -76,7 +105,7 @@ public final class Promise02Test {
         Calls.refused("into its own box", x -> x.putIn(2, 0, 2), DropBoxLoom.NOT_POSSIBLE);
     }
 
-    @Sentence({"or if the box is not empty.", "A box is empty or has one shuttle."})
+    @Sentence("or if the box is not empty.")
     static void notPossibleIntoABoxThatIsNotEmpty() {
         Calls.refused("left", x -> x.putIn(0, 0, 2), DropBoxLoom.NOT_POSSIBLE);
         Calls.refused("right", x -> x.putIn(3, 1, 0), DropBoxLoom.NOT_POSSIBLE);
@@ -85,8 +114,8 @@ public final class Promise02Test {
         Check.due("putIn into a box that is empty again", x.putIn(3, 1, 0), 2);
     }
 
-    @Sentence({"NO_SUCH if there is no such shuttle, side or box; NOT_POSSIBLE if",
-        "If several of them apply, the one that is named first in the @return line is returned."})
+    @Sentence({"If several of them apply, the one that is named first in the @return line is returned.",
+        "NO_SUCH if there is no such shuttle, side or box; NOT_POSSIBLE if"})
     static void noSuchBeforeNotPossible() {
         Calls.refused("a shuttle in a box, no such side", x -> x.putIn(4, 2, 0), DropBoxLoom.NO_SUCH);
         Calls.refused("a shuttle in a box, no such box", x -> x.putIn(4, 1, 2), DropBoxLoom.NO_SUCH);

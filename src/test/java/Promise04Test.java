@@ -70,15 +70,15 @@ public final class Promise04Test {
         Calls.refused("on the right side", x -> x.wind(4, 0, 0), DropBoxLoom.NOT_POSSIBLE);
     }
 
-    @Sentence({"NO_SUCH if there is no such shuttle; BAD_VALUE if colour or yarn is out of range;",
-        "If several of them apply, the one that is named first in the @return line is returned."})
+    @Sentence({"If several of them apply, the one that is named first in the @return line is returned.",
+        "NO_SUCH if there is no such shuttle; BAD_VALUE if colour or yarn is out of range;"})
     static void noSuchBeforeBadValue() {
         Calls.refused("a bad colour", x -> x.wind(5, 10, 0), DropBoxLoom.NO_SUCH);
         Calls.refused("a bad yarn", x -> x.wind(-1, 0, 100), DropBoxLoom.NO_SUCH);
     }
 
-    @Sentence({"BAD_VALUE if colour or yarn is out of range; NOT_POSSIBLE if it is not in the drawer.",
-        "If several of them apply, the one that is named first in the @return line is returned."})
+    @Sentence({"If several of them apply, the one that is named first in the @return line is returned.",
+        "BAD_VALUE if colour or yarn is out of range; NOT_POSSIBLE if it is not in the drawer."})
     static void badValueBeforeNotPossible() {
         Calls.refused("a bad colour", x -> x.wind(4, -1, 0), DropBoxLoom.BAD_VALUE);
         Calls.refused("a bad yarn", x -> x.wind(2, 0, -1), DropBoxLoom.BAD_VALUE);

@@ -4,20 +4,28 @@ public final class Promise05Test {
         Promise.test(Promise05Test.class);
     }
 
-    @Sentence({"Moves the boxes of a side by hand.", "`side`: 0 or 1", "`box`: the box that comes to the race"})
-    static void movesTheFirstAndTheLastBoxOfThisSideAlone() {
+    @Sentence("`side`: 0 or 1")
+    static void movesTheSide0AndTheSide1EachAlone() {
         DropBoxLoom x = new DropBoxLoom();
-        x.moveBoxes(0, 3);
-        Check.due("left", x.count(3), 3);
+        x.moveBoxes(0, 1);
+        Check.due("left", x.count(3), 1);
         Check.due("right", x.count(4), 0);
-        x.moveBoxes(1, 1);
-        Check.due("left", x.count(3), 3);
-        Check.due("right", x.count(4), 1);
-        x.moveBoxes(0, 0);
-        Check.due("left", x.count(3), 0);
-        Check.due("right", x.count(4), 1);
-        x.moveBoxes(1, 0);
-        Check.due("right", x.count(4), 0);
+        DropBoxLoom y = new DropBoxLoom();
+        y.moveBoxes(1, 1);
+        Check.due("left", y.count(3), 0);
+        Check.due("right", y.count(4), 1);
+    }
+
+    @Sentence("`box`: the box that comes to the race")
+    static void bringsTheFirstAndTheLastBoxToTheRace() {
+        DropBoxLoom x = new DropBoxLoom();
+        int[] left = {3, 0, 2, 1};
+        for (int box : left) {
+            x.moveBoxes(0, box);
+            x.moveBoxes(1, box % 2);
+            Check.due("left", x.count(3), box);
+            Check.due("right", x.count(4), box % 2);
+        }
     }
 
     @Sentence("Moves the boxes of a side by hand.")

@@ -23,12 +23,20 @@ public final class Promise07Test {
         Check.due("strength of 11", x.thread(11, 1), 2);
     }
 
-    @Sentence({"`strength`: 0 to 99", "Returns the previous strength;"})
-    static void takesAndReturnsTheStrengths0And99() {
+    @Sentence("`strength`: 0 to 99")
+    static void takesTheStrengths0And99() {
+        DropBoxLoom x = new DropBoxLoom();
+        x.mend(3, 0);
+        Check.due("strength", x.thread(3, 1), 0);
+        x.mend(3, 99);
+        Check.due("strength", x.thread(3, 1), 99);
+    }
+
+    @Sentence("Returns the previous strength;")
+    static void returnsTheStrengths0And99() {
         DropBoxLoom x = new DropBoxLoom();
         Check.due("mend(3, 0)", x.mend(3, 0), 60);
         Check.due("mend(3, 99)", x.mend(3, 99), 0);
-        Check.due("strength", x.thread(3, 1), 99);
         Check.due("mend(3, 99) again", x.mend(3, 99), 99);
     }
 
@@ -51,8 +59,8 @@ public final class Promise07Test {
         Calls.refusedOutside(0, 99, DropBoxLoom.BAD_VALUE, (x, strength) -> x.mend(0, strength));
     }
 
-    @Sentence({"NO_SUCH if there is no such thread; BAD_VALUE if strength is out of range.",
-        "If several of them apply, the one that is named first in the @return line is returned."})
+    @Sentence({"If several of them apply, the one that is named first in the @return line is returned.",
+        "NO_SUCH if there is no such thread; BAD_VALUE if strength is out of range."})
     static void noSuchBeforeBadValue() {
         Calls.refused("too strong", x -> x.mend(12, 100), DropBoxLoom.NO_SUCH);
         Calls.refused("too weak", x -> x.mend(-1, -1), DropBoxLoom.NO_SUCH);

@@ -4,17 +4,32 @@ public final class Promise08Test {
         Promise.test(Promise08Test.class);
     }
 
-    @Sentence({"Changes the speed.", "`speed`: 1 to 3", "Returns the previous speed;",
-        "The speed is 1, 2 or 3, at first 1."})
-    static void takesAndReturnsTheSpeeds1To3() {
+    @Sentence({"`speed`: 1 to 3", "Changes the speed."})
+    static void takesTheSpeeds1To3() {
+        DropBoxLoom x = new DropBoxLoom();
+        int[] speeds = {3, 2, 1};
+        for (int speed : speeds) {
+            x.setSpeed(speed);
+            Check.due("speed", x.count(2), speed);
+        }
+    }
+
+    @Sentence("Returns the previous speed;")
+    static void returnsTheSpeeds1To3() {
         DropBoxLoom x = new DropBoxLoom();
         Check.due("setSpeed(3)", x.setSpeed(3), 1);
-        Check.due("speed", x.count(2), 3);
         Check.due("setSpeed(2)", x.setSpeed(2), 3);
-        Check.due("speed", x.count(2), 2);
         Check.due("setSpeed(1)", x.setSpeed(1), 2);
-        Check.due("speed", x.count(2), 1);
         Check.due("setSpeed(1) again", x.setSpeed(1), 1);
+    }
+
+    @Sentence("The speed is 1, 2 or 3, at first 1.")
+    static void isNeverLessThan1OrMoreThan3() {
+        for (int speed = -1; speed <= 5; speed++) {
+            DropBoxLoom x = new DropBoxLoom();
+            x.setSpeed(speed);
+            Check.due("speed after setSpeed(" + speed + ")", x.count(2), speed == 2 || speed == 3 ? speed : 1);
+        }
     }
 
     @Sentence("BAD_VALUE if speed is out of range.")

@@ -27,8 +27,7 @@ public final class Promise09Test {
         Check.due("place at the card that was the last one", x.count(1), 1);
     }
 
-    @Sentence({"`frames`: the frames that are lifted, 0 to 63",
-        "A card has a set of frames that are lifted (a bit mask, 0 to 63), a box of the left side and a box of the right side."})
+    @Sentence("`frames`: the frames that are lifted, 0 to 63")
     static void takesTheFrames0And63() {
         DropBoxLoom x = new DropBoxLoom();
         Check.due("addCard(0, 0, 0)", x.addCard(0, 0, 0), 0);
@@ -37,18 +36,34 @@ public final class Promise09Test {
         Check.due("frames of 1", x.card(1, 0), 63);
     }
 
-    @Sentence({"`left`: 0 to 3", "`right`: 0 or 1"})
-    static void takesTheFirstAndTheLastBoxes() {
+    @Sentence("`left`: 0 to 3")
+    static void takesTheLeftBoxes0And3() {
         DropBoxLoom x = new DropBoxLoom();
         Check.due("addCard(1, 0, 1)", x.addCard(1, 0, 1), 0);
-        Check.due("addCard(1, 3, 0)", x.addCard(1, 3, 0), 1);
+        Check.due("addCard(1, 3, 1)", x.addCard(1, 3, 1), 1);
         Check.due("left of 0", x.card(0, 1), 0);
-        Check.due("right of 0", x.card(0, 2), 1);
         Check.due("left of 1", x.card(1, 1), 3);
-        Check.due("right of 1", x.card(1, 2), 0);
     }
 
-    @Sentence({"Returns its number;", "The chain has 0 to 16 cards,"})
+    @Sentence("`right`: 0 or 1")
+    static void takesTheRightBoxes0And1() {
+        DropBoxLoom x = new DropBoxLoom();
+        Check.due("addCard(1, 2, 0)", x.addCard(1, 2, 0), 0);
+        Check.due("addCard(1, 2, 1)", x.addCard(1, 2, 1), 1);
+        Check.due("right of 0", x.card(0, 2), 0);
+        Check.due("right of 1", x.card(1, 2), 1);
+    }
+
+    @Sentence("The chain has 0 to 16 cards,")
+    static void makesAChainOf0To16Cards() {
+        DropBoxLoom x = new DropBoxLoom();
+        for (int calls = 0; calls <= 18; calls++) {
+            Check.due("cards after " + calls, x.count(0), Math.min(calls, 16));
+            x.addCard(0, 0, 0);
+        }
+    }
+
+    @Sentence("Returns its number;")
     static void returns0InAnEmptyChainAnd15InOneOf15Cards() {
         DropBoxLoom x = new DropBoxLoom();
         for (int card = 0; card < 16; card++) {
@@ -82,21 +97,21 @@ public final class Promise09Test {
         Check.due("a 16th card", x.addCard(1, 2, 1), 15);
     }
 
-    @Sentence({"BAD_VALUE if frames is out of range; NO_SUCH if there is no such box;",
-        "If several of them apply, the one that is named first in the @return line is returned."})
+    @Sentence({"If several of them apply, the one that is named first in the @return line is returned.",
+        "BAD_VALUE if frames is out of range; NO_SUCH if there is no such box;"})
     static void badValueBeforeNoSuch() {
         Calls.refused("no such left box", x -> x.addCard(64, 4, 0), DropBoxLoom.BAD_VALUE);
         Calls.refused("no such right box", x -> x.addCard(-1, 0, 2), DropBoxLoom.BAD_VALUE);
     }
 
-    @Sentence({"BAD_VALUE if frames is out of range; NO_SUCH if there is no such box; LIMIT if the chain has 16 cards.",
-        "If several of them apply, the one that is named first in the @return line is returned."})
+    @Sentence({"If several of them apply, the one that is named first in the @return line is returned.",
+        "BAD_VALUE if frames is out of range; NO_SUCH if there is no such box; LIMIT if the chain has 16 cards."})
     static void badValueBeforeLimit() {
         Calls.refused(Looms::fullChain, "too many frames", x -> x.addCard(64, 0, 0), DropBoxLoom.BAD_VALUE);
     }
 
-    @Sentence({"NO_SUCH if there is no such box; LIMIT if the chain has 16 cards.",
-        "If several of them apply, the one that is named first in the @return line is returned."})
+    @Sentence({"If several of them apply, the one that is named first in the @return line is returned.",
+        "NO_SUCH if there is no such box; LIMIT if the chain has 16 cards."})
     static void noSuchBeforeLimit() {
         Calls.refused(Looms::fullChain, "no such left box", x -> x.addCard(0, -1, 0), DropBoxLoom.NO_SUCH);
         Calls.refused(Looms::fullChain, "no such right box", x -> x.addCard(0, 0, -1), DropBoxLoom.NO_SUCH);

@@ -15,7 +15,16 @@ public final class Promise10Test {
         return x;
     }
 
-    @Sentence({"Removes a card.", "`card`: number of the card"})
+    @Sentence("`card`: number of the card")
+    static void takesTheFirstAndTheLastCard() {
+        DropBoxLoom x = Looms.withCards(3);
+        Check.due("removeCard(2)", x.removeCard(2), 2);
+        Check.due("frames of 1", x.card(1, 0), 1);
+        Check.due("removeCard(0)", x.removeCard(0), 1);
+        Check.due("frames of 0", x.card(0, 0), 1);
+    }
+
+    @Sentence("Removes a card.")
     static void removesTheFirstTheLastAndEachOtherCardOfAFullChain() {
         for (int removed = 0; removed < 16; removed++) {
             DropBoxLoom x = Looms.withCards(16);
@@ -71,7 +80,7 @@ public final class Promise10Test {
         Check.due("place of a chain that was full", y.count(1), 0);
     }
 
-    @Sentence({"if the place is behind the last card then, it becomes 0.", "it is 0 in an empty chain."})
+    @Sentence({"it is 0 in an empty chain.", "if the place is behind the last card then, it becomes 0."})
     static void makesThePlace0InAnEmptyChain() {
         DropBoxLoom x = Looms.withCards(2);
         x.turnTo(1);

@@ -132,8 +132,20 @@ public final class Promise12Test {
         stopped(tooFar(), 3, 0);
     }
 
-    @Sentence({"A side can move its boxes by at most 4 minus the speed places for one pick;",
-        "the number of places is the absolute difference between the number of the box at the race and that of the card."})
+    @Sentence("the number of places is the absolute difference between the number of the box at the race and that of the card.")
+    static void reason3CountsPlacesUpAndDownAlike() {
+        int[][] moves = {{0, 3}, {3, 0}, {1, 3}, {3, 1}, {0, 2}, {2, 0}};
+        for (int[] move : moves) {
+            DropBoxLoom x = new DropBoxLoom();
+            x.setSpeed(2);
+            x.putIn(0, 0, move[1]);
+            x.addCard(0, move[1], 0);
+            x.moveBoxes(0, move[0]);
+            Check.due("from " + move[0] + " to " + move[1] + " at the speed 2", x.whyNot(), move[0] + move[1] == 3 ? 3 : 0);
+        }
+    }
+
+    @Sentence("A side can move its boxes by at most 4 minus the speed places for one pick;")
     static void reason3FromOnePlaceMoreThan4MinusTheSpeed() {
         for (int speed = 1; speed <= 3; speed++) {
             for (int i = 0; i < 16; i++) {
@@ -241,9 +253,15 @@ public final class Promise12Test {
         int[] numbers = {DropBoxLoom.NONE, 5, 0, 0, DropBoxLoom.NONE, 4};
         for (int reason = 1; reason <= 6; reason++) {
             DropBoxLoom x = stoppedBy(reason);
+            DropBoxLoom y = stoppedBy(reason);
+            // Far from those of the card, so that boxes that come to the race all the same are seen.
+            for (DropBoxLoom both : new DropBoxLoom[] {x, y}) {
+                both.moveBoxes(0, 3);
+                both.moveBoxes(1, 1);
+            }
             stopped(x, reason, numbers[reason - 1]);
             Check.holds("all but the stop after reason " + reason,
-                    Asked.allButStops(x).equals(Asked.allButStops(stoppedBy(reason))));
+                    Asked.allButStops(x).equals(Asked.allButStops(y)));
         }
     }
 
@@ -359,7 +377,20 @@ public final class Promise12Test {
         Check.due("reason", x.count(9), 6);
     }
 
-    @Sentence({"a row is added to the cloth;", "The cloth has the latest 20 rows."})
+    @Sentence("a row is added to the cloth;")
+    static void addsOneRowWithEachPick() {
+        DropBoxLoom x = Looms.moving(9);
+        Check.due("rows", x.count(7), 0);
+        x.weave(1);
+        Check.due("rows", x.count(7), 1);
+        Check.due("row 0", x.cloth(0, 3), 103);
+        x.weave(1);
+        Check.due("rows", x.count(7), 2);
+        Check.due("row 0", x.cloth(0, 3), 7);
+        Check.due("row 1", x.cloth(1, 3), 103);
+    }
+
+    @Sentence("The cloth has the latest 20 rows.")
     static void keepsTheLatest20Rows() {
         for (int picks = 19; picks <= 22; picks++) {
             DropBoxLoom x = Looms.plain(99);

@@ -4,8 +4,8 @@ public final class Promise15Test {
         Promise.test(Promise15Test.class);
     }
 
-    @Sentence({"Returns something about a shuttle.", "Returns the number;",
-        "`what`: 0 for its colour, 1 for its yarn, 2 for its side, 3 for its box"})
+    @Sentence({"`what`: 0 for its colour, 1 for its yarn, 2 for its side, 3 for its box",
+        "Returns something about a shuttle.", "Returns the number;"})
     static void answersAll4NumbersOnBothSides() {
         DropBoxLoom x = Looms.busy();
         int[] left = {2, 19, 0, 2};
@@ -47,8 +47,8 @@ public final class Promise15Test {
         Calls.refusedOutside(0, 3, DropBoxLoom.BAD_VALUE, (x, what) -> x.shuttle(0, what));
     }
 
-    @Sentence({"NO_SUCH if there is no such shuttle; BAD_VALUE if what is out of range.",
-        "If several of them apply, the one that is named first in the @return line is returned."})
+    @Sentence({"If several of them apply, the one that is named first in the @return line is returned.",
+        "NO_SUCH if there is no such shuttle; BAD_VALUE if what is out of range."})
     static void noSuchBeforeBadValue() {
         Calls.refused("shuttle(5, 4)", x -> x.shuttle(5, 4), DropBoxLoom.NO_SUCH);
         Calls.refused("shuttle(-1, -1)", x -> x.shuttle(-1, -1), DropBoxLoom.NO_SUCH);

@@ -4,7 +4,27 @@ public final class Promise16Test {
         Promise.test(Promise16Test.class);
     }
 
-    @Sentence({"Returns the shuttle in a box.", "Returns the shuttle;", "`side`: 0 or 1", "`box`: number of the box"})
+    @Sentence("`side`: 0 or 1")
+    static void asksTheSides0And1() {
+        DropBoxLoom x = new DropBoxLoom();
+        x.putIn(4, 0, 1);
+        Check.due("inBox(0, 1)", x.inBox(0, 1), 4);
+        Check.due("inBox(1, 1)", x.inBox(1, 1), DropBoxLoom.NONE);
+        x.putIn(3, 1, 1);
+        Check.due("inBox(0, 1)", x.inBox(0, 1), 4);
+        Check.due("inBox(1, 1)", x.inBox(1, 1), 3);
+    }
+
+    @Sentence("Returns the shuttle;")
+    static void answersTheShuttles0And4() {
+        DropBoxLoom x = new DropBoxLoom();
+        x.putIn(0, 0, 2);
+        x.putIn(4, 1, 0);
+        Check.due("inBox(0, 2)", x.inBox(0, 2), 0);
+        Check.due("inBox(1, 0)", x.inBox(1, 0), 4);
+    }
+
+    @Sentence({"`box`: number of the box", "Returns the shuttle in a box."})
     static void answersTheShuttlesInTheFirstAndTheLastBoxes() {
         DropBoxLoom x = new DropBoxLoom();
         x.putIn(4, 0, 0);

@@ -4,8 +4,15 @@ public final class Promise17Test {
         Promise.test(Promise17Test.class);
     }
 
-    @Sentence({"Returns something about a thread.", "Returns the number;", "`thread`: 0 to 11",
-        "`what`: 0 for its frame, 1 for its strength,"})
+    @Sentence("`thread`: 0 to 11")
+    static void takesTheThreads0And11() {
+        DropBoxLoom x = new DropBoxLoom();
+        x.draw(0, 4);
+        Check.due("thread(0, 0)", x.thread(0, 0), 4);
+        Check.due("thread(11, 0)", x.thread(11, 0), 5);
+    }
+
+    @Sentence({"`what`: 0 for its frame, 1 for its strength,", "Returns something about a thread.", "Returns the number;"})
     static void answersTheFrameAndTheStrengthOfTheThreads0And11() {
         DropBoxLoom x = Looms.busy();
         x.mend(11, 99);
@@ -40,8 +47,8 @@ public final class Promise17Test {
         Calls.refusedOutside(0, 2, DropBoxLoom.BAD_VALUE, (x, what) -> x.thread(0, what));
     }
 
-    @Sentence({"NO_SUCH if there is no such thread; BAD_VALUE if what is out of range.",
-        "If several of them apply, the one that is named first in the @return line is returned."})
+    @Sentence({"If several of them apply, the one that is named first in the @return line is returned.",
+        "NO_SUCH if there is no such thread; BAD_VALUE if what is out of range."})
     static void noSuchBeforeBadValue() {
         Calls.refused("thread(12, 3)", x -> x.thread(12, 3), DropBoxLoom.NO_SUCH);
         Calls.refused("thread(-1, -1)", x -> x.thread(-1, -1), DropBoxLoom.NO_SUCH);

@@ -4,8 +4,31 @@ public final class Promise18Test {
         Promise.test(Promise18Test.class);
     }
 
-    @Sentence({"Returns something about a card.", "Returns the number;", "`card`: number of the card",
-        "`what`: 0 for its frames, 1 for its box of the left side, 2 for that of the right side,"})
+    @Sentence("`card`: number of the card")
+    static void takesTheFirstAndTheLastCard() {
+        int[] chains = {1, 2, 16};
+        for (int cards : chains) {
+            DropBoxLoom x = Looms.withCards(cards);
+            Check.due("card(0, 0) of " + cards, x.card(0, 0), 0);
+            Check.due("the last card of " + cards, x.card(cards - 1, 0), cards - 1);
+            Check.due("the card behind it", x.card(cards, 0), DropBoxLoom.NO_SUCH);
+        }
+    }
+
+    @Sentence("A card has a set of frames that are lifted (a bit mask, 0 to 63), a box of the left side and a box of the right side.")
+    static void hasABitForEachFrame() {
+        for (int frames = 0; frames <= 63; frames++) {
+            DropBoxLoom x = new DropBoxLoom();
+            x.addCard(frames, 3, 1);
+            Check.due("frames", x.card(0, 0), frames);
+            Check.due("threads of " + frames, x.card(0, 3), frames | frames << 6);
+            Check.due("left", x.card(0, 1), 3);
+            Check.due("right", x.card(0, 2), 1);
+        }
+    }
+
+    @Sentence({"`what`: 0 for its frames, 1 for its box of the left side, 2 for that of the right side,",
+        "Returns something about a card.", "Returns the number;"})
     static void answersTheFirstAndTheLastCardOfAFullChain() {
         DropBoxLoom x = new DropBoxLoom();
         for (int card = 0; card < 16; card++) {
@@ -57,8 +80,8 @@ public final class Promise18Test {
         Calls.refusedOutside(0, 3, DropBoxLoom.BAD_VALUE, (x, what) -> x.card(0, what));
     }
 
-    @Sentence({"NO_SUCH if there is no such card; BAD_VALUE if what is out of range.",
-        "If several of them apply, the one that is named first in the @return line is returned."})
+    @Sentence({"If several of them apply, the one that is named first in the @return line is returned.",
+        "NO_SUCH if there is no such card; BAD_VALUE if what is out of range."})
     static void noSuchBeforeBadValue() {
         Calls.refused("card(3, 4)", x -> x.card(3, 4), DropBoxLoom.NO_SUCH);
         Calls.refused("card(-1, -1)", x -> x.card(-1, -1), DropBoxLoom.NO_SUCH);

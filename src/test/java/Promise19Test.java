@@ -4,8 +4,17 @@ public final class Promise19Test {
         Promise.test(Promise19Test.class);
     }
 
-    @Sentence({"Returns what the cloth shows.", "Returns 100 + the thread if it is lifted in this row, otherwise the colour of the row;",
-        "Where a thread is lifted, the cloth shows the thread, otherwise it shows the colour of the row."})
+    @Sentence("Where a thread is lifted, the cloth shows the thread, otherwise it shows the colour of the row.")
+    static void showsNoThreadAndAllThreads() {
+        DropBoxLoom x = Looms.moving(9);
+        x.weave(2);
+        for (int t = 0; t < 12; t++) {
+            Check.due("no frame is lifted", x.cloth(0, t), 7);
+            Check.due("all frames are lifted", x.cloth(1, t), 100 + t);
+        }
+    }
+
+    @Sentence({"Returns what the cloth shows.", "Returns 100 + the thread if it is lifted in this row, otherwise the colour of the row;"})
     static void showsTheThreadOrTheColourOfEachRow() {
         DropBoxLoom x = Looms.busy();
         int[] frames = {5, 8, 3, 5};

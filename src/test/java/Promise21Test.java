@@ -4,7 +4,18 @@ public final class Promise21Test {
         Promise.test(Promise21Test.class);
     }
 
-    @Sentence({"Returns the reason by which the next pick would be stopped.", "Returns the reason, 1 to 6;"})
+    @Sentence("Returns the reason by which the next pick would be stopped.")
+    static void returnsThatOfTheCardAtThePlaceAndNotOfAnother() {
+        DropBoxLoom x = Looms.plain(9);
+        x.addCard(0, 0, 0);
+        int[] dues = {0, 0, 5};
+        for (int place = 0; place < 3; place++) {
+            x.turnTo(place);
+            Check.due("whyNot() at the place " + place, x.whyNot(), dues[place]);
+        }
+    }
+
+    @Sentence("Returns the reason, 1 to 6;")
     static void returnsEachReasonFromTheLastToTheFirst() {
         DropBoxLoom x = Looms.busy();
         x.takeOut(4);

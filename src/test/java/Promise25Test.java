@@ -4,7 +4,7 @@ public final class Promise25Test {
         Promise.test(Promise25Test.class);
     }
 
-    @Sentence({"Appends a character to the text.", "`code`: character code, 33 to 126"})
+    @Sentence("`code`: character code, 33 to 126")
     static void takesTheCodes33And126() {
         DropBoxLoom x = new DropBoxLoom();
         Check.due("type(33)", x.type(33), 1);
@@ -47,8 +47,8 @@ public final class Promise25Test {
         Check.due("type(48) then", x.type(48), 1);
     }
 
-    @Sentence({"BAD_VALUE if code is out of range; LIMIT if the text has 80 characters.",
-        "If several of them apply, the one that is named first in the @return line is returned."})
+    @Sentence({"If several of them apply, the one that is named first in the @return line is returned.",
+        "BAD_VALUE if code is out of range; LIMIT if the text has 80 characters."})
     static void badValueBeforeLimit() {
         Calls.refused(Looms::full, "type(32)", x -> x.type(32), DropBoxLoom.BAD_VALUE);
         Calls.refused(Looms::full, "type(127)", x -> x.type(127), DropBoxLoom.BAD_VALUE);

@@ -4,7 +4,7 @@ public final class Promise26Test {
         Promise.test(Promise26Test.class);
     }
 
-    @Sentence({"Makes the text empty.", "Returns the previous length of the text."})
+    @Sentence("Returns the previous length of the text.")
     static void returnsTheLengths0And80() {
         DropBoxLoom x = new DropBoxLoom();
         Check.due("clearText() of an empty text", x.clearText(), 0);

@@ -83,6 +83,18 @@ public final class Promise28Test {
         refused(1, "L0R0;".repeat(15) + "L0R0", DropBoxLoom.LIMIT);
     }
 
+    @Sentence({"LIMIT if the chain would have more than 16 cards", "makes the text empty."})
+    static void countsNoCardsOfALongerTextFromBefore() {
+        DropBoxLoom x = withCardsAndText(15, "1L2R0;L0R0;L0R0");
+        x.clearText();
+        Check.typeText(x, "3L2R0");
+        Check.due("readCards() of one card", x.readCards(), 16);
+        DropBoxLoom y = withCardsAndText(12, "1L2R0;L0R0;L0R0");
+        y.readCards();
+        Check.typeText(y, "3L2R0");
+        Check.due("readCards() of one card more", y.readCards(), 16);
+    }
+
     @Sentence("all of them or none,")
     static void addsNoneOfTheCardsIfOneIsTooMuchOrWrong() {
         DropBoxLoom x = withCardsAndText(14, "0L0R0;0L0R0;0L0R0");
@@ -115,8 +127,8 @@ public final class Promise28Test {
         Check.due("frames", x.card(14, 0), 2);
     }
 
-    @Sentence({"BAD_TEXT if the text is not a card list; LIMIT if the chain would have more than 16 cards",
-        "If several of them apply, the one that is named first in the @return line is returned."})
+    @Sentence({"If several of them apply, the one that is named first in the @return line is returned.",
+        "BAD_TEXT if the text is not a card list; LIMIT if the chain would have more than 16 cards"})
     static void badTextBeforeLimit() {
         refused(16, "L0R0;", DropBoxLoom.BAD_TEXT);
         refused(16, "", DropBoxLoom.BAD_TEXT);

@@ -26,7 +26,7 @@ public final class Promise29Test {
         Check.due("undo()", x.undo(), DropBoxLoom.NOT_POSSIBLE);
     }
 
-    @Sentence({"NOT_POSSIBLE if no state is saved.", "and discards it from the saved states."})
+    @Sentence("NOT_POSSIBLE if no state is saved.")
     static void notPossibleAfterAllSavedStatesAreRestored() {
         Calls.refused(() -> {
             DropBoxLoom x = Looms.busy();
@@ -35,7 +35,20 @@ public final class Promise29Test {
         }, "undo()", DropBoxLoom::undo, DropBoxLoom.NOT_POSSIBLE);
     }
 
-    @Sentence({"Returns the number of saved states that are left;", "Restores the state that was saved last,"})
+    @Sentence("Restores the state that was saved last, and discards it from the saved states.")
+    static void restoresEachSavedStateOnceTheLastOneFirst() {
+        DropBoxLoom x = new DropBoxLoom();
+        x.setSpeed(2);
+        x.setSpeed(3);
+        x.undo();
+        Check.due("speed", x.count(2), 2);
+        x.undo();
+        Check.due("speed", x.count(2), 1);
+        x.undo();
+        Check.due("speed", x.count(2), 1);
+    }
+
+    @Sentence("Returns the number of saved states that are left;")
     static void returnsTheNumberThatIsLeftFrom5To0() {
         DropBoxLoom x = new DropBoxLoom();
         for (int strength = 1; strength <= 6; strength++) {
