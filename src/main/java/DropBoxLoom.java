@@ -406,10 +406,11 @@ public final class DropBoxLoom {
     // ---- undo
 
     public int undo() {
-        if (savedStates <= 0) {
+        Loom before = saved[Math.floorMod(latestSaved, MOST_SAVED)];
+        if (savedStates <= 0 || before == null) {
             return NOT_POSSIBLE;
         }
-        now.copyFrom(saved[Math.floorMod(latestSaved, MOST_SAVED)]);
+        now.copyFrom(before);
         latestSaved = Math.floorMod(latestSaved - 1, MOST_SAVED);
         savedStates--;
         return savedStates;
@@ -479,7 +480,10 @@ public final class DropBoxLoom {
 
     private void save() {
         latestSaved = Math.floorMod(latestSaved + 1, MOST_SAVED);
-        saved[latestSaved].copyFrom(now);
+        Loom room = saved[latestSaved];
+        if (room != null) {
+            room.copyFrom(now);
+        }
         if (savedStates < MOST_SAVED) {
             savedStates++;
         }

@@ -24,6 +24,7 @@ public final class LanguageTest {
         String code = source.replaceAll("(?s)/\\*.*?\\*/", "").replaceAll("//[^\n]*", "");
         forbiddenWords(code);
         lengthOfMethods(code);
+        savedStatesAreLookedAt(code);
         List<Class<?>> classes = new ArrayList<>(List.of(DropBoxLoom.class.getDeclaredClasses()));
         Check.holds("at most 12 classes", classes.size() < 12);
         for (Class<?> inside : classes) {
@@ -48,7 +49,8 @@ public final class LanguageTest {
 
     /** A method ends with the brace that stands as far in as its first line. */
     private static void lengthOfMethods(String code) {
-        Matcher method = Pattern.compile("(?m)^( {4}| {8})(?! |if |for |while |switch )[\\w\\[\\] ]+\\([^;{]*\\) \\{$").matcher(code);
+        Matcher method = Pattern.compile(
+                "(?m)^( {4}| {8})(?! |if |for |while |switch )[\\w\\[\\] ]+\\([^;{]*\\) \\{$").matcher(code);
         int methods = 0;
         while (method.find()) {
             int end = code.indexOf("\n" + method.group(1) + "}\n", method.start());
@@ -57,6 +59,23 @@ public final class LanguageTest {
             methods++;
         }
         Check.holds("methods are found", methods >= 30);
+    }
+
+    /** The saved states are the one row of references: each one is compared with null before it is used. */
+    private static void savedStatesAreLookedAt(String code) {
+        Check.due("rows of references", count("\\b[A-Z]\\w+\\[\\] \\w+", code), 1);
+        int made = count("\\bsaved\\[\\w+\\] = new Loom\\(\\);", code);
+        int lookedAt = count("\\bLoom (\\w+) = saved\\[[^;]+;\n +if \\([^\n]*\\b\\1 [!=]= null\\)", code);
+        Check.due("uses of the saved states", count("\\bsaved\\[", code), made + lookedAt);
+    }
+
+    private static int count(String pattern, String code) {
+        Matcher found = Pattern.compile(pattern).matcher(code);
+        int number = 0;
+        while (found.find()) {
+            number++;
+        }
+        return number;
     }
 
     private static void fields(Class<?> one) {

@@ -1,4 +1,7 @@
-/** Promise 2: putIn. In a busy loom the shuttles 0, 1 and 3 lie in the drawer, 4 in the right box 0, 2 in the left box 2. */
+/**
+ * Promise 2: putIn. In a busy loom the shuttles 0, 1 and 3 lie in the drawer, 4 in the right box 0, 2 in the
+ * left box 2.
+ */
 public final class Promise02Test {
     public static void main(String[] args) {
         Promise.test(Promise02Test.class);

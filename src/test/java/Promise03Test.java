@@ -1,4 +1,7 @@
-/** Promise 3: takeOut. In a busy loom the shuttle 4 is in the right box 0, 2 in the left box 2, the others are in the drawer. */
+/**
+ * Promise 3: takeOut. In a busy loom the shuttle 4 is in the right box 0, 2 in the left box 2, the others are
+ * in the drawer.
+ */
 public final class Promise03Test {
     public static void main(String[] args) {
         Promise.test(Promise03Test.class);

@@ -132,7 +132,8 @@ public final class Promise12Test {
         stopped(tooFar(), 3, 0);
     }
 
-    @Sentence("the number of places is the absolute difference between the number of the box at the race and that of the card.")
+    @Sentence("the number of places is the absolute difference between the number of the box at the race and"
+            + " that of the card.")
     static void reason3CountsPlacesUpAndDownAlike() {
         int[][] moves = {{0, 3}, {3, 0}, {1, 3}, {3, 1}, {0, 2}, {2, 0}};
         for (int[] move : moves) {
@@ -141,7 +142,8 @@ public final class Promise12Test {
             x.putIn(0, 0, move[1]);
             x.addCard(0, move[1], 0);
             x.moveBoxes(0, move[0]);
-            Check.due("from " + move[0] + " to " + move[1] + " at the speed 2", x.whyNot(), move[0] + move[1] == 3 ? 3 : 0);
+            Check.due("from " + move[0] + " to " + move[1] + " at the speed 2", x.whyNot(),
+                    move[0] + move[1] == 3 ? 3 : 0);
         }
     }
 
@@ -445,7 +447,8 @@ public final class Promise12Test {
         Calls.undoable("weave(99)", x -> x.weave(99));
     }
 
-    @Sentence({"Undoable.", "Methods marked \"Undoable\" save the state from before the call if they return no error code."})
+    @Sentence({"Undoable.",
+        "Methods marked \"Undoable\" save the state from before the call if they return no error code."})
     static void savesTheStateBeforeEvenIfItMakesNoPick() {
         Calls.undoable(Promise12Test::withoutCards, "weave that answers 0", x -> x.weave(5));
     }

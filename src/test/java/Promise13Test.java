@@ -5,8 +5,9 @@ public final class Promise13Test {
     private static final String ON_THE_CLOTH = "The latest pick can be taken back as long as its row is on the cloth";
     private static final String NO_OTHER_CALL =
             "and no call of another Undoable method than weave() and takeBack() changed anything since:";
-    private static final String ALL_AS_BEFORE = "then all is as it was before that pick, but the strengths of the threads,"
-            + " and the latest stop and the number of stops, which stay;";
+    private static final String ALL_AS_BEFORE =
+            "then all is as it was before that pick, but the strengths of the threads,"
+                    + " and the latest stop and the number of stops, which stay;";
 
     public static void main(String[] args) {
         Promise.test(Promise13Test.class);

@@ -1,4 +1,7 @@
-/** Promise 15: shuttle. In a busy loom the shuttle 4 is in the right box 0, 2 in the left box 2, the others are in the drawer. */
+/**
+ * Promise 15: shuttle. In a busy loom the shuttle 4 is in the right box 0, 2 in the left box 2, the others are
+ * in the drawer.
+ */
 public final class Promise15Test {
     public static void main(String[] args) {
         Promise.test(Promise15Test.class);

@@ -12,7 +12,8 @@ public final class Promise17Test {
         Check.due("thread(11, 0)", x.thread(11, 0), 5);
     }
 
-    @Sentence({"`what`: 0 for its frame, 1 for its strength,", "Returns something about a thread.", "Returns the number;"})
+    @Sentence({"`what`: 0 for its frame, 1 for its strength,", "Returns something about a thread.",
+        "Returns the number;"})
     static void answersTheFrameAndTheStrengthOfTheThreads0And11() {
         DropBoxLoom x = Looms.busy();
         x.mend(11, 99);

@@ -15,7 +15,8 @@ public final class Promise18Test {
         }
     }
 
-    @Sentence("A card has a set of frames that are lifted (a bit mask, 0 to 63), a box of the left side and a box of the right side.")
+    @Sentence("A card has a set of frames that are lifted (a bit mask, 0 to 63), a box of the left side and a box"
+            + " of the right side.")
     static void hasABitForEachFrame() {
         for (int frames = 0; frames <= 63; frames++) {
             DropBoxLoom x = new DropBoxLoom();

@@ -14,7 +14,8 @@ public final class Promise19Test {
         }
     }
 
-    @Sentence({"Returns what the cloth shows.", "Returns 100 + the thread if it is lifted in this row, otherwise the colour of the row;"})
+    @Sentence({"Returns what the cloth shows.",
+        "Returns 100 + the thread if it is lifted in this row, otherwise the colour of the row;"})
     static void showsTheThreadOrTheColourOfEachRow() {
         DropBoxLoom x = Looms.busy();
         int[] frames = {5, 8, 3, 5};

@@ -52,7 +52,8 @@ public final class Promise21Test {
         Check.due("2 places at the speed 2", x.whyNot(), 0);
     }
 
-    @Sentence({"Ahead of the calls `whyNot`, `picksLeft`, `firstEmpty`, `repeats` the interface says: ---- forecasts; they change nothing.",
+    @Sentence({"Ahead of the calls `whyNot`, `picksLeft`, `firstEmpty`, `repeats` the interface says:"
+            + " ---- forecasts; they change nothing.",
         "Returns the reason by which the next pick would be stopped."})
     static void changesNothing() {
         Calls.changesNothing(Looms::busy, "whyNot()", DropBoxLoom::whyNot);

@@ -72,7 +72,8 @@ public final class Promise22Test {
         Check.due("picksLeft() of 201 after two picks", x.picksLeft(), 199);
     }
 
-    @Sentence("Ahead of the calls `whyNot`, `picksLeft`, `firstEmpty`, `repeats` the interface says: ---- forecasts; they change nothing.")
+    @Sentence("Ahead of the calls `whyNot`, `picksLeft`, `firstEmpty`, `repeats` the interface says:"
+            + " ---- forecasts; they change nothing.")
     static void changesNothing() {
         Calls.changesNothing(Looms::busy, "picksLeft()", DropBoxLoom::picksLeft);
         Calls.changesNothing(Looms::full, "picksLeft()", DropBoxLoom::picksLeft);

@@ -4,7 +4,8 @@ public final class Promise23Test {
         Promise.test(Promise23Test.class);
     }
 
-    @Sentence({"Tells which of the shuttles would have no yarn first", "Returns the shuttle whose lack of yarn stops a pick;"})
+    @Sentence({"Tells which of the shuttles would have no yarn first",
+        "Returns the shuttle whose lack of yarn stops a pick;"})
     static void tellsTheShuttle0AndTheShuttle4() {
         for (int s = 0; s < 5; s += 4) {
             DropBoxLoom x = new DropBoxLoom();
@@ -117,7 +118,8 @@ public final class Promise23Test {
         Check.due("number of the stop", x.count(10), 1);
     }
 
-    @Sentence("Ahead of the calls `whyNot`, `picksLeft`, `firstEmpty`, `repeats` the interface says: ---- forecasts; they change nothing.")
+    @Sentence("Ahead of the calls `whyNot`, `picksLeft`, `firstEmpty`, `repeats` the interface says:"
+            + " ---- forecasts; they change nothing.")
     static void changesNothing() {
         Calls.changesNothing(Looms::busy, "firstEmpty()", DropBoxLoom::firstEmpty);
         Calls.changesNothing(Looms::full, "firstEmpty()", DropBoxLoom::firstEmpty);

@@ -17,7 +17,8 @@ public final class Promise24Test {
         repeats("a loom that has no cards any more", x, 0);
     }
 
-    @Sentence({"Tells whether the chain repeats: whether,", "all picks of the chain,", "could be made one after the other,"})
+    @Sentence({"Tells whether the chain repeats: whether,", "all picks of the chain,",
+        "could be made one after the other,"})
     static void asksForEachPickOfTheChainToTheLastOf16() {
         repeats("2 cards", Looms.plain(20), 1);
         DropBoxLoom x = new DropBoxLoom();
@@ -142,7 +143,8 @@ public final class Promise24Test {
         }
     }
 
-    @Sentence("Ahead of the calls `whyNot`, `picksLeft`, `firstEmpty`, `repeats` the interface says: ---- forecasts; they change nothing.")
+    @Sentence("Ahead of the calls `whyNot`, `picksLeft`, `firstEmpty`, `repeats` the interface says:"
+            + " ---- forecasts; they change nothing.")
     static void changesNothing() {
         Calls.changesNothing(Looms::busy, "repeats()", DropBoxLoom::repeats);
         Calls.changesNothing(Looms::full, "repeats()", DropBoxLoom::repeats);

@@ -2,7 +2,8 @@
 public final class Promise27Test {
     private static final String FIRST_CHARACTER = "Returns the index of the first character for which no card list,"
             + " of any length, begins with the characters of the text up to and including this one;";
-    private static final String UNFINISHED = "the length of the text if there is no such character but the text is not a card list";
+    private static final String UNFINISHED =
+            "the length of the text if there is no such character but the text is not a card list";
     private static final String CARD_LIST = "A card list is a text of the form card { \";\" card },";
 
     public static void main(String[] args) {

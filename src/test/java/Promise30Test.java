@@ -43,7 +43,8 @@ public final class Promise30Test {
         Check.due("digest()", new DropBoxLoom().digest(), hash);
     }
 
-    @Sentence({"For each value v of the following list, in order, the hash becomes 31 * hash + v, in long arithmetic with overflow.",
+    @Sentence({"For each value v of the following list, in order, the hash becomes 31 * hash + v,"
+            + " in long arithmetic with overflow.",
         "Returns the hash."})
     static void hashesAllThatCanBeAskedWithOverflow() {
         hashed("a new loom", new DropBoxLoom());
